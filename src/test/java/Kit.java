@@ -1,0 +1,102 @@
+/** What the tests share: texts and MEADOWS in letters, and answers compared as strings. */
+final class Kit {
+    private static int wrong;
+    private static int looked;
+
+    private Kit() {
+    }
+
+    interface Call {
+        Object go();
+    }
+
+    /** The answer of a call, or throws. and the name of what it threw. */
+    static String answer(Call call) {
+        try {
+            return String.valueOf(call.go());
+        } catch (RuntimeException thrown) {
+            return "throws." + thrown.getClass().getSimpleName();
+        }
+    }
+
+    static void due(String what, Object want, Call call) {
+        looked++;
+        String got = answer(call);
+        if (!got.equals(String.valueOf(want))) {
+            wrong++;
+            System.out.println(what + " answered " + got + ", due is " + want);
+        }
+    }
+
+    static void finish(String test) {
+        System.out.println(test + ": " + looked + " answers looked at, " + wrong + " not as due");
+        if (wrong != 0) {
+            System.exit(1);
+        }
+    }
+
+    static int wrongs() {
+        return wrong;
+    }
+
+    /** The CODE of letters; "" and "." have none. */
+    static long code(String letters) {
+        long code = 1;
+        for (char letter : letters.toCharArray()) {
+            if (letter != '.') {
+                code = code * 8 + (letter - 'a');
+            }
+        }
+        return code;
+    }
+
+    static String letters(long code) {
+        StringBuilder letters = new StringBuilder();
+        for (long rest = code; rest > 1; rest /= 8) {
+            letters.insert(0, (char) ('a' + rest % 8));
+        }
+        return letters.toString();
+    }
+
+    static String repeat(String part, int many) {
+        return part.repeat(many);
+    }
+
+    /** Feeds signs 0 to 255 to the TAPE of an object that has none, and cuts it to them. */
+    static void feed(BeastRules x, String signs) {
+        for (int at = 0; at < signs.length(); at += 20) {
+            x.feed(four(signs, at), four(signs, at + 4), four(signs, at + 8), four(signs, at + 12), four(signs, at + 16));
+        }
+        x.end(signs.length());
+    }
+
+    static int four(String signs, int at) {
+        int four = 0;
+        for (int i = at; i < at + 4; i++) {
+            four = four << 8 | (i < signs.length() ? signs.charAt(i) & 255 : 0);
+        }
+        return four;
+    }
+
+    static int valley(BeastRules x, String text) {
+        feed(x, text);
+        return x.valley();
+    }
+
+    static int law(BeastRules x, String text) {
+        feed(x, text);
+        return x.law();
+    }
+
+    static BeastRules of(String text) {
+        BeastRules x = new BeastRules();
+        valley(x, text);
+        return x;
+    }
+
+    static BeastRules of(String text, String law) {
+        BeastRules x = of(text);
+        law(x, law);
+        return x;
+    }
+}
