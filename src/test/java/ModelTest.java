@@ -51,8 +51,10 @@ public final class ModelTest {
     }
 
     private void go() {
-        int kinds = 1 + draw(4);
-        text(valleyText(kinds, 14), true);
+        int kinds = oneIn(6) ? 8 : 1 + draw(4);
+        if (!oneIn(10)) {
+            text(firstText(kinds), true);
+        }
         if (oneIn(2)) {
             text(lawText(), false);
         }
@@ -60,7 +62,8 @@ public final class ModelTest {
             if (oneIn(5)) {
                 act(kinds);
             } else if (oneIn(12)) {
-                text(oneIn(3) ? lawText() : valleyText(kinds, 4), !oneIn(3));
+                boolean law = oneIn(3);
+                text(law ? lawText() : valleyText(kinds, 4), law == oneIn(20));
             } else if (oneIn(30)) {
                 tape();
             } else {
@@ -73,7 +76,7 @@ public final class ModelTest {
     // ---- texts
 
     private void text(String text, boolean valley) {
-        String signs = oneIn(6) ? spoiled(text) : text;
+        String signs = oneIn(5) ? spoiled(text) : text;
         m.tape.setLength(0);
         x.end(0);
         Kit.feed(x, signs);
@@ -144,23 +147,41 @@ public final class ModelTest {
         return fitting(text.append(blank()).toString());
     }
 
+    private String firstText(int kinds) {
+        StringBuilder text = new StringBuilder("first " + pick("left", "right", "rule", "all"));
+        for (int i = 1 + draw(5); i > 0; i--) {
+            text.append(";").append(ruleLine(kinds));
+        }
+        for (int i = 1 + draw(4); i > 0; i--) {
+            text.append(";").append("field ").append(word(0, oneIn(3) ? 20 : 6, kinds));
+        }
+        for (int i = draw(4); i > 0; i--) {
+            text.append(";").append(seenLine(kinds));
+        }
+        return fitting(text.toString());
+    }
+
+    private String ruleLine(int kinds) {
+        return "rule" + " " + blank() + word(1, oneIn(4) ? 4 : 2, kinds) + " to " + blank()
+                + word(0, oneIn(3) ? 5 : 2, kinds);
+    }
+
     private String valleyLine(int kinds) {
         switch (draw(16)) {
             case 0: case 1: case 2: case 3: case 4: case 5: case 6:
-                return "rule" + " " + blank() + word(1, oneIn(4) ? 4 : 2, kinds) + " to " + blank()
-                        + word(0, oneIn(3) ? 5 : 2, kinds);
+                return m.s.rules.size() < 10 || oneIn(3) ? ruleLine(kinds) : "fog " + draw(101);
             case 7: case 8: case 9:
-                return "field " + word(0, oneIn(3) ? 20 : 6, kinds);
+                return m.s.fields.size() < 5 || oneIn(4) ? "field " + word(0, oneIn(3) ? 20 : 6, kinds) : "first left";
             case 10: case 11:
                 return seenLine(kinds);
             case 12:
                 return "first " + pick("left", "right", "rule", "all");
             case 13:
-                return "fog" + blank() + pick("0", "5", "50", "100", "007", "101", "99");
+                return "fog" + blank() + (oneIn(20) ? "101" : pick("0", "5", "50", "100", "007", "99"));
             case 14:
-                return "weight " + word(1, 1, 8) + blank() + draw(oneIn(9) ? 110 : 100);
+                return "weight " + word(1, 1, 8) + blank() + draw(oneIn(20) ? 110 : 100);
             default:
-                return "drop " + draw(oneIn(2) ? 2 : 13);
+                return "drop " + (oneIn(9) ? draw(13) : draw(Math.max(1, m.s.rules.size())));
         }
     }
 
@@ -249,8 +270,10 @@ public final class ModelTest {
         int r = index(m.s.rules.size());
         switch (draw(12)) {
             case 0: case 1: {
-                int p = index(6);
-                due("use(" + f + ", " + r + ", " + p + ")", () -> x.use(f, r, p), () -> m.use(f, r, p));
+                int[] turn = turn(f, r);
+                int p = turn[0];
+                int u = turn[1];
+                due("use(" + f + ", " + u + ", " + p + ")", () -> x.use(f, u, p), () -> m.use(f, u, p));
                 break;
             }
             case 2: case 3: {
@@ -290,6 +313,17 @@ public final class ModelTest {
             default:
                 keep();
         }
+    }
+
+    /** {place, rule}: mostly one that fits. */
+    private int[] turn(int field, int rule) {
+        if (field >= 0 && field < m.s.fields.size() && !oneIn(3)) {
+            List<int[]> fit = m.uses(m.s.fields.get(field).beasts, "any", true, 0);
+            if (!fit.isEmpty()) {
+                return fit.get(draw(fit.size()));
+            }
+        }
+        return new int[] {index(6), rule};
     }
 
     private void keep() {
@@ -339,9 +373,13 @@ public final class ModelTest {
             case 4:
                 due("maker(" + f + ", " + p + ", " + w + ")", () -> x.maker(f, p, w), () -> m.maker(f, p, w));
                 break;
-            case 5:
-                due("fits(" + c + ", " + r + ", " + p + ")", () -> x.fits(c, r, p), () -> m.fits(c, r, p));
+            case 5: {
+                int[] turn = turn(f, r);
+                int u = turn[1];
+                long d = f >= 0 && f < m.s.fields.size() && !oneIn(3) ? Kit.code(m.s.fields.get(f).beasts) : c;
+                due("fits(" + d + ", " + u + ", " + turn[0] + ")", () -> x.fits(d, u, turn[0]), () -> m.fits(d, u, turn[0]));
                 break;
+            }
             default: {
                 int what = within(0, 10);
                 due("count(" + what + ")", () -> x.count(what), () -> m.count(what));
