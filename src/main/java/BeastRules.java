@@ -312,7 +312,7 @@ public final class BeastRules {
         for (int i = 0; i <= n; i++) {
             for (int j = 0; j <= n; j++) {
                 long asked = withBeasts(withBeasts(withBeasts(BARE, 0, i), 1, 1), 0, j);
-                if (walk.settle(asked, 200) != withBeasts(BARE, 0, i + j)) {
+                if (!settlesTo(asked, withBeasts(BARE, 0, i + j))) {
                     return asked;
                 }
             }
@@ -327,7 +327,7 @@ public final class BeastRules {
                 asked = withBeasts(asked, choice >> i & 1, 1);
             }
             int many = Integer.bitCount(choice);
-            if (walk.settle(asked, 200) != withBeasts(withBeasts(BARE, 0, n - many), 1, many)) {
+            if (!settlesTo(asked, withBeasts(withBeasts(BARE, 0, n - many), 1, many))) {
                 return asked;
             }
         }
@@ -340,11 +340,15 @@ public final class BeastRules {
             long copied = withBeasts(some, 2, 1);
             long asked = kind == 2 ? copied : withBeasts(withBeasts(some, 0, i), 3, 1);
             long due = kind == 2 ? withBeasts(copied, 0, i) : some;
-            if (walk.settle(asked, 200) != due) {
+            if (!settlesTo(asked, due)) {
                 return asked;
             }
         }
         return NONE;
+    }
+
+    private boolean settlesTo(long meadow, long due) {
+        return walk.settle(meadow, 200) == due;
     }
 
     public int dropped(int fields) {

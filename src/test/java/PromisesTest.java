@@ -640,6 +640,7 @@ public final class PromisesTest {
         due("22: 200", true, () -> down.alike(c("gg" + digits(67) + "e"), c("ffaaaaaaae")));
         due("22: 201", false, () -> down.alike(c("ffg" + digits(67) + "e"), c("ffg" + digits(68) + "e")));
         due("22: 201", false, () -> down.alike(c("fffaaaaaaae"), c("ggg" + digits(67) + "e")));
+        due("22: 201", false, () -> down.alike(c("ggg" + digits(67) + "e"), c("fffaaaaaaae")));
         for (long none : NO_CODES) {
             due("22: " + none, ARGUMENT, () -> x.alike(none, 8));
             due("22: " + none, ARGUMENT, () -> x.alike(8, none));
@@ -660,7 +661,7 @@ public final class PromisesTest {
         due("32: by WAY", c("a"), () -> Kit.of("rule a to a;rule a to b;rule b to c").endless());
         due("32: by THE LAW", c("aa"), () -> Kit.of("rule a to b;rule b to a", "bar if long < 2").endless());
         due("32: by THE LAW", NONE, () -> Kit.of("rule a to b;rule b to a", "bar if long < 4").endless());
-        due("32: the last of three", c("bbb"), () -> Kit.of("rule a to c;rule bbb to bbb").endless());
+        due("32: the last of three", c("hhh"), () -> Kit.of("rule a to c;rule hhh to hhh").endless());
         // f alone makes a number that is counted down in 100 STEPS, or 101.
         String down = COUNT_DOWN + ";rule d to bbbab;rule g to h;rule f to ";
         String law = "bar if rule < 4 and rule > 2 and long < 5; bar if rule > 4 and long > 1";
