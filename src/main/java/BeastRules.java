@@ -1501,10 +1501,11 @@ public final class BeastRules {
         private int gather(long code, int size) {
             int many = rules.size;
             int pairs = size * many;
+            int mostUses = way == WAY_ALL ? MOST_BEASTS : 1;
             int uses = 0;
             int newSize = size;
             int behind = 0;
-            for (int i = 0; i < pairs && (uses == 0 || way == WAY_ALL); i++) {
+            for (int i = 0; i < pairs && uses < mostUses; i++) {
                 int place = way == WAY_RULE ? i % size : way == WAY_RIGHT ? size - 1 - i / many : i / many;
                 int rule = way == WAY_RULE ? i / size : i % many;
                 if (place >= behind && mayUse(rule, place, code, size)) {

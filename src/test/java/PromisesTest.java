@@ -274,6 +274,14 @@ public final class PromisesTest {
             BeastRules x = Kit.of("rule b to a;rule a to b", "bar if " + b[0]);
             due("5: bar if " + b[0], b[1].equals("0"), () -> x.fits(c("bbabb"), 1, 2));
         }
+        for (String deepest : new String[] {"1+1<1+1+1", "2+1<1+2", "1<2 and 3<1+2", "2<1 or 1<2 and 1+2<1+1+1+1"}) {
+            // As much waits to be joined as ever can.
+            String deep = "2<1 or 1<2 and (".repeat(6) + "2<1 or 1<2 and " + deepest + ")".repeat(6);
+            boolean holds = deepest.endsWith("1+1");
+            due("5: bar if " + deep, !holds, () -> Kit.of("rule a to b", "bar if " + deep).fits(8, 0, 0));
+            String other = "1<2 and not (" .repeat(3) + "2<1 or 1<2 and " + deepest + ")".repeat(3);
+            due("5: bar if " + other, holds, () -> Kit.of("rule a to b", "bar if " + other).fits(8, 0, 0));
+        }
         BeastRules ends = Kit.of("rule aa to b", "bar if end");
         due("5: the first PLACE is an end", false, () -> ends.fits(c("aab"), 0, 0));
         due("5: nothing behind LEFT is an end", false, () -> ends.fits(c("baa"), 0, 1));
