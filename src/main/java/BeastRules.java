@@ -1845,7 +1845,6 @@ public final class BeastRules {
                     return true;
                 }
             }
-            weights[beast] = 0;
             return false;
         }
 

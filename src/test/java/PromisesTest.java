@@ -1110,6 +1110,10 @@ public final class PromisesTest {
         due("37: nothing becomes nothing", 0, () -> Kit.of("seen . to .").guessed(0));
         due("37: nothing becomes a", 0, () -> Kit.of("seen . to a").guessed(0));
         due("37: the same is none", 0, () -> Kit.of("seen aa to aa").guessed(0));
+        // b to ba at the first PLACE, b to ab at the second, bb to bab.
+        due("37: several RIGHTS", 3, () -> Kit.of("seen bb to bab").guessed(0));
+        due("37: several RIGHTS", c("b"), () -> Kit.of("seen bb to bab").guessed(1));
+        due("37: by CODE of RIGHT", c("ab"), () -> Kit.of("seen bb to bab").guessed(2));
         // a to none, aa to a: the least number of LEFT first.
         due("37: a to none, aa to a, aaa to aa", 3, () -> Kit.of("seen aaaa to aaa").guessed(0));
         due("37: LEFT", c("a"), () -> Kit.of("seen aaaa to aaa").guessed(1));
