@@ -39,6 +39,10 @@ final class Kit {
         return wrong;
     }
 
+    static int looks() {
+        return looked;
+    }
+
     /** The CODE of letters; "" and "." have none. */
     static long code(String letters) {
         long code = 1;
@@ -86,6 +90,36 @@ final class Kit {
     static int law(BeastRules x, String text) {
         feed(x, text);
         return x.law();
+    }
+
+    /** All that can be seen of an object but the TAPE and fault(), by some hundred calls that change nothing. */
+    static String state(BeastRules x) {
+        StringBuilder state = new StringBuilder("counts");
+        for (int what = 0; what <= 10; what++) {
+            state.append(' ').append(x.count(what));
+        }
+        for (int i = 0; i < x.count(0); i++) {
+            state.append("; rule ").append(letters(x.rule(i, false))).append(" to ").append(letters(x.rule(i, true)));
+        }
+        for (int i = 0; i < x.count(1); i++) {
+            String beasts = letters(x.field(i));
+            state.append("; field ").append(beasts).append(" behind ").append(x.steps(i));
+            for (int place = 0; place < beasts.length(); place++) {
+                state.append(' ').append(x.maker(i, place, 0)).append('/').append(x.maker(i, place, 1));
+                for (int rule = 0; rule < x.count(0); rule++) {
+                    state.append(x.fits(x.field(i), rule, place) ? " fits" : " -");
+                }
+            }
+        }
+        for (int i = 0; i < x.count(2); i++) {
+            state.append("; seen ").append(letters(x.seen(i, false))).append(" to ").append(letters(x.seen(i, true)));
+        }
+        for (int beast = 0; beast < 8; beast++) {
+            state.append(' ').append(x.light(8 + beast));
+        }
+        int seed = x.seed(0);
+        x.seed(seed);
+        return state.append("; seed ").append(seed).toString();
     }
 
     static BeastRules of(String text) {

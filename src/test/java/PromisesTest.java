@@ -593,10 +593,10 @@ public final class PromisesTest {
         // 20 BEASTS sorted one by one: 10 times 10 STEPS.
         due("20: 100", 100, () -> x.settles(c("b".repeat(10) + a(10)), 100, false));
         due("20: not in 99", NONE, () -> x.settles(c("b".repeat(10) + a(10)), 99, false));
-        BeastRules down = Kit.of(COUNT_DOWN + ";rule g to h");
-        due("20: 500", 500, () -> down.settles(c("gggg" + digits(167) + "e"), 500, false));
-        due("20: not in 499", NONE, () -> down.settles(c("gggg" + digits(167) + "e"), 499, false));
-        due("20: not in 500", NONE, () -> down.settles(c("g" + digits(168) + "e"), 500, false));
+        BeastRules down = Kit.of(Machines.COUNT_DOWN + ";rule g to h");
+        due("20: 500", 500, () -> down.settles(c("gggg" + Machines.digits(167) + "e"), 500, false));
+        due("20: not in 499", NONE, () -> down.settles(c("gggg" + Machines.digits(167) + "e"), 499, false));
+        due("20: not in 500", NONE, () -> down.settles(c("g" + Machines.digits(168) + "e"), 500, false));
         BeastRules barred = Kit.of("rule ba to ab", "bar if place > 1");
         due("20: by THE LAW", c("abba"), () -> barred.settles(c("baba"), 500, true));
         BeastRules all = Kit.of("rule ba to ab;first all");
@@ -617,23 +617,13 @@ public final class PromisesTest {
         BeastRules same = Kit.of("rule a to a");
         due("21: by a RULE of both sides alike", 1, () -> same.again(8, false));
         due("21: by a RULE of both sides alike", 0, () -> same.again(8, true));
-        BeastRules down = Kit.of(COUNT_DOWN + ";rule h to f;rule g to g");
-        due("21: 500", 500, () -> down.again(c("ghhh" + digits(167) + "e"), false));
-        due("21: 499", 499, () -> down.again(c("ghhh" + digits(167) + "e"), true));
-        due("21: 501", NONE, () -> down.again(c("ghhhh" + digits(167) + "e"), false));
+        BeastRules down = Kit.of(Machines.COUNT_DOWN + ";rule h to f;rule g to g");
+        due("21: 500", 500, () -> down.again(c("ghhh" + Machines.digits(167) + "e"), false));
+        due("21: 499", 499, () -> down.again(c("ghhh" + Machines.digits(167) + "e"), true));
+        due("21: 501", NONE, () -> down.again(c("ghhhh" + Machines.digits(167) + "e"), false));
         for (long none : NO_CODES) {
             due("21: " + none, ARGUMENT, () -> x.again(none, false));
         }
-    }
-
-    /**
-     * Counts a number of figures a (0) and b (1), with e behind it, down to 0: each b that is at the right end becomes a,
-     * and c goes from it to the end and makes b of each a. From n it takes 3 n STEPS, less the number of b in n.
-     */
-    private static final String COUNT_DOWN = "first right;rule b to ac;rule ca to bc;rule ce to e";
-
-    private static String digits(int number) {
-        return Integer.toBinaryString(number).replace('0', 'a').replace('1', 'b');
     }
 
     private static void promise22() {
@@ -644,11 +634,11 @@ public final class PromisesTest {
         due("22: the other does not", false, () -> x.alike(c("a"), c("d")));
         due("22: neither", false, () -> x.alike(c("d"), c("c")));
         due("22: itself", true, () -> x.alike(1, 1));
-        BeastRules down = Kit.of(COUNT_DOWN + ";rule g to f");
-        due("22: 200", true, () -> down.alike(c("gg" + digits(67) + "e"), c("ffaaaaaaae")));
-        due("22: 201", false, () -> down.alike(c("ffg" + digits(67) + "e"), c("ffg" + digits(68) + "e")));
-        due("22: 201", false, () -> down.alike(c("fffaaaaaaae"), c("ggg" + digits(67) + "e")));
-        due("22: 201", false, () -> down.alike(c("ggg" + digits(67) + "e"), c("fffaaaaaaae")));
+        BeastRules down = Kit.of(Machines.COUNT_DOWN + ";rule g to f");
+        due("22: 200", true, () -> down.alike(c("gg" + Machines.digits(67) + "e"), c("ffaaaaaaae")));
+        due("22: 201", false, () -> down.alike(c("ffg" + Machines.digits(67) + "e"), c("ffg" + Machines.digits(68) + "e")));
+        due("22: 201", false, () -> down.alike(c("fffaaaaaaae"), c("ggg" + Machines.digits(67) + "e")));
+        due("22: 201", false, () -> down.alike(c("ggg" + Machines.digits(67) + "e"), c("fffaaaaaaae")));
         for (long none : NO_CODES) {
             due("22: " + none, ARGUMENT, () -> x.alike(none, 8));
             due("22: " + none, ARGUMENT, () -> x.alike(8, none));
@@ -671,7 +661,7 @@ public final class PromisesTest {
         due("32: by THE LAW", NONE, () -> Kit.of("rule a to b;rule b to a", "bar if long < 4").endless());
         due("32: the last of three", c("hhh"), () -> Kit.of("rule a to c;rule hhh to hhh").endless());
         // f alone makes a number that is counted down in 100 STEPS, or 101.
-        String down = COUNT_DOWN + ";rule d to bbbab;rule g to h;rule f to ";
+        String down = Machines.COUNT_DOWN + ";rule d to bbbab;rule g to h;rule f to ";
         String law = "bar if rule < 4 and rule > 2 and long < 5; bar if rule > 4 and long > 1";
         due("32: 100 STEPS", NONE, () -> Kit.of(down + "ddgde", law).endless());
         due("32: 101 STEPS", c("f"), () -> Kit.of(down + "dagde", law).endless());
@@ -688,8 +678,8 @@ public final class PromisesTest {
         due("33: sorts one", NONE, () -> new BeastRules().reckons(1, 1));
         due("33: sorts not", c("ba"), () -> new BeastRules().reckons(1, 2));
         due("33: just N BEASTS", c("aaba"), () -> Kit.of("rule ba to ab", "bar if place > 1").reckons(1, 4));
-        due("33: within 200 STEPS", NONE, () -> Kit.of(HALF_DOWN + "rule d to fggge;rule g to bbhh").reckons(3, 0));
-        due("33: not within 201", c("d"), () -> Kit.of(HALF_DOWN + "rule d to fgaae;rule g to baaaa").reckons(3, 0));
+        due("33: within 200 STEPS", NONE, () -> Kit.of(Machines.CLEARED + "rule d to fggge;rule g to bbhh").reckons(3, 0));
+        due("33: not within 201", c("d"), () -> Kit.of(Machines.CLEARED + "rule d to fgaae;rule g to baaaa").reckons(3, 0));
         due("33: by CODE", c("bbbb"), () -> Kit.of("rule bbbb to c;rule ba to ab").reckons(1, 4));
         due("33: copies nothing", NONE, () -> new BeastRules().reckons(2, 0));
         due("33: copies", c("ac"), () -> new BeastRules().reckons(2, 1));
@@ -704,8 +694,6 @@ public final class PromisesTest {
         due("33: kind", ARGUMENT, () -> x.reckons(-1, 0));
         due("33: kind", ARGUMENT, () -> x.reckons(4, 0));
     }
-
-    private static final String HALF_DOWN = "first right;rule b to ac;rule ca to bc;rule ce to e;rule fa to f;rule fe to .;rule h to .;";
 
     private static void promise34() {
         BeastRules x = Kit.of("rule a to b;rule b to a;rule c to c;rule d to e;field a;field c;field d;field .");
@@ -728,7 +716,7 @@ public final class PromisesTest {
         due("34: nothing of WAY 0", 2, () -> Kit.of("rule a to b;rule b to b;field aab;first right").dropped(1));
         due("34: by WAY", 0, () -> Kit.of("rule aab to .;rule b to b;field aab;first left").dropped(1));
         due("34: by WAY", 2, () -> Kit.of("rule aab to .;rule b to b;field aab;first right").dropped(1));
-        BeastRules down = Kit.of(COUNT_DOWN + ";rule g to h;field " + digits(34) + "e;field g" + digits(34) + "e");
+        BeastRules down = Kit.of(Machines.COUNT_DOWN + ";rule g to h;field " + Machines.digits(34) + "e;field g" + Machines.digits(34) + "e");
         due("34: 100 STEPS", 0, () -> down.dropped(1));
         due("34: 101 STEPS", 1, () -> down.dropped(2));
         BeastRules twelve = Kit.of("rule h to h" + ";rule h to h".repeat(6) + ";rule a to a;rule a to c;field a");
@@ -783,17 +771,14 @@ public final class PromisesTest {
         due("23: 40 STEPS", 20, () -> left.becomes(c("a"), 40, 0));
         BeastRules law = Kit.of("rule a to b", "bar if place > 0");
         due("23: by THE LAW", 2, () -> law.becomes(c("aaa"), 40, 0));
-        // 1486 within 6 STEPS, c for the first four b alone 1 within 5 and 7 more within 6, and one for each RULE of c.
-        String most = "rule a to b;rule bbbb to c;rule c to d;rule c to e;rule c to f;rule c to g;rule c to h;rule c to .";
-        String bars = "bar if rule < 1 and long < 11; bar if rule > 0 and rule < 2 and place > 0";
-        due("23: 1500", 1500, () -> Kit.of(most, bars).becomes(c(a(11)), 6, 0));
-        due("23: 1501", -3, () -> Kit.of(most + ";rule c to dd", bars).becomes(c(a(11)), 6, 0));
-        due("24: 1500", 6, () -> Kit.of(most, bars).fewest(c(a(11)), c("d" + a(7))));
-        due("24: 1501", -3, () -> Kit.of(most + ";rule c to dd", bars).fewest(c(a(11)), c("d" + a(7))));
-        due("25: 1500", 0, () -> Kit.of(most, bars).meets(c(a(11)), c(a(11)), 6, false));
-        due("25: 1501", -3, () -> Kit.of(most + ";rule c to dd", bars).meets(c(a(11)), c(a(11)), 6, false));
-        due("38: 1500", 0, () -> Kit.of(most, bars).drovers(c(a(11)), 6));
-        due("38: 1501", -3, () -> Kit.of(most + ";rule c to dd", bars).drovers(c(a(11)), 6));
+        due("23: 1500", 1500, () -> Machines.most().becomes(c(a(11)), 6, 0));
+        due("23: 1501", -3, () -> Machines.tooMany().becomes(c(a(11)), 6, 0));
+        due("24: 1500", 6, () -> Machines.most().fewest(c(a(11)), c("d" + a(7))));
+        due("24: 1501", -3, () -> Machines.tooMany().fewest(c(a(11)), c("d" + a(7))));
+        due("25: 1500", 0, () -> Machines.most().meets(c(a(11)), c(a(11)), 6, false));
+        due("25: 1501", -3, () -> Machines.tooMany().meets(c(a(11)), c(a(11)), 6, false));
+        due("38: 1500", 0, () -> Machines.most().drovers(c(a(11)), 6));
+        due("38: 1501", -3, () -> Machines.tooMany().drovers(c(a(11)), 6));
     }
 
     private static void promise24() {
