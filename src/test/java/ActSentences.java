@@ -1,15 +1,5 @@
 /** The sentences of promises 14 to 19 and 41 to 45: acts, and what becomes of them. */
-final class ActSentences {
-    private static final String INDEX = Sentences.INDEX;
-    private static final String ARGUMENT = Sentences.ARGUMENT;
-    private static final String STATE = Sentences.STATE;
-    private static final String UNSUPPORTED = Sentences.UNSUPPORTED;
-    private static final String ELEMENT = Sentences.ELEMENT;
-    private static final int NONE = Sentences.NONE;
-
-    private ActSentences() {
-    }
-
+final class ActSentences extends Sentences {
     static void tests() {
         promise14();
         promise15();
@@ -20,30 +10,16 @@ final class ActSentences {
         promise18();
         promise19();
         promise19Draws();
+        promise19Seed();
         promise41();
         promise42();
+        promise42Else();
         promise42Acts();
         promise43();
         promise44();
         promise45();
         exceptions();
         refusedCalls();
-    }
-
-    private static void test(int promise, String sentence, Sentences.Body body) {
-        Sentences.test(promise, sentence, body);
-    }
-
-    private static void due(String what, Object want, Kit.Call call) {
-        Sentences.due(what, want, call);
-    }
-
-    private static long c(String letters) {
-        return Kit.code(letters);
-    }
-
-    private static String a(int many) {
-        return "a".repeat(many);
     }
 
     // ---- 14: a RULE is used
@@ -53,7 +29,7 @@ final class ActSentences {
             BeastRules x = Kit.of("rule a to b;field a");
             due("no such FIELD, and no PLACE", INDEX, () -> x.use(1, 0, -1));
             due("no such RULE, and no PLACE", INDEX, () -> x.use(0, 1, -1));
-            for (int far : Sentences.FAR) {
+            for (int far : FAR) {
                 due("field " + far, INDEX, () -> x.use(far, 0, 0));
                 due("rule " + far, INDEX, () -> x.use(0, far, 0));
                 due("place " + far, STATE, () -> x.use(0, 0, far));
@@ -107,7 +83,7 @@ final class ActSentences {
             BeastRules x = Kit.of("rule a to b;field a");
             due("both: the one told first", INDEX, () -> x.run(1, 0));
             due("both: the one told first", INDEX, () -> x.run(-1, 201));
-            for (int far : Sentences.FAR) {
+            for (int far : FAR) {
                 due("field " + far, INDEX, () -> x.run(far, 1));
             }
             due("no act", 0, () -> x.count(10));
@@ -211,10 +187,10 @@ final class ActSentences {
         test(16, "`long put(int field, long meadow) throws IndexOutOfBoundsException, IllegalArgumentException`:", () -> {
             BeastRules x = Kit.of("field a");
             due("both: the one told first", INDEX, () -> x.put(1, 0));
-            for (int far : Sentences.FAR) {
+            for (int far : FAR) {
                 due("field " + far, INDEX, () -> x.put(far, 8));
             }
-            for (long none : Sentences.NO_CODES) {
+            for (long none : NO_CODES) {
                 due("CODE " + none, ARGUMENT, () -> x.put(0, none));
             }
             due("no act", 0, () -> x.count(10));
@@ -263,7 +239,7 @@ final class ActSentences {
         });
         test(17, "IllegalArgumentException: a CODE is none, or has too many BEASTS, or LEFT none;", () -> {
             BeastRules x = new BeastRules();
-            for (long none : Sentences.NO_CODES) {
+            for (long none : NO_CODES) {
                 due("LEFT " + none, ARGUMENT, () -> x.add(none, 8));
                 due("RIGHT " + none, ARGUMENT, () -> x.add(8, none));
             }
@@ -284,7 +260,7 @@ final class ActSentences {
         test(17, "UnsupportedOperationException: there are 12.", () -> {
             BeastRules x = Kit.of("rule a to b" + ";rule a to b".repeat(10));
             due("the 12th", 11, () -> x.add(8, 8));
-            Sentences.refused(x, "the 13th", UNSUPPORTED, () -> x.add(8, 8));
+            refused(x, "the 13th", UNSUPPORTED, () -> x.add(8, 8));
             x.drop(0);
             due("once more the 12th", 11, () -> x.add(8, 8));
         });
@@ -298,7 +274,7 @@ final class ActSentences {
             due("the last", 2, () -> x.drop(2));
             due("the one ahead of it stays", c("ccc"), () -> x.rule(1, false));
             due("behind the last", INDEX, () -> x.drop(2));
-            for (int far : Sentences.FAR) {
+            for (int far : FAR) {
                 due("rule " + far, INDEX, () -> x.drop(far));
             }
             due("one left", 1, () -> x.drop(0));
@@ -325,7 +301,7 @@ final class ActSentences {
             BeastRules x = Kit.of("rule a to b;field a");
             due("both: the one told first", INDEX, () -> x.years(1, 0));
             due("both: the one told first", INDEX, () -> x.years(-1, 201));
-            for (int far : Sentences.FAR) {
+            for (int far : FAR) {
                 due("field " + far, INDEX, () -> x.years(far, 1));
             }
             due("no YEAR", 0, () -> x.count(7));
@@ -420,6 +396,9 @@ final class ActSentences {
                 due("240, SEED " + seed, which % 12, () -> x.maker(0, which / 12, 0));
             }
         });
+    }
+
+    private static void promise19Seed() {
         test(19, "(none: nothing; nothing is drawn).", () -> {
             BeastRules x = Kit.of("rule a to b;field b;field .;field a", "bar if long < 2 and rule < 1");
             for (int field = 0; field < 3; field++) {
@@ -517,6 +496,9 @@ final class ActSentences {
             }
             due("none more", false, () -> x.undo());
         });
+    }
+
+    private static void promise42Else() {
         test(42, "all is as ahead of it (but for the TAPE, fault(), THE IMAGE).", () -> {
             BeastRules x = Kit.of("rule a to b;rule b to ccc;field aa;field b", "bar if year > 8");
             x.run(0, 1);
@@ -711,7 +693,7 @@ final class ActSentences {
             BeastRules x = Kit.of("rule a to b;field a");
             due("11", NONE, () -> x.count(11));
             due("-1", NONE, () -> x.count(-1));
-            for (int far : Sentences.FAR) {
+            for (int far : FAR) {
                 due("what " + far, NONE, () -> x.count(far));
             }
         });
@@ -769,7 +751,7 @@ final class ActSentences {
         });
         test(14, "IllegalStateException: it cannot be.", () -> {
             BeastRules x = Kit.of("rule a to b;field b");
-            Sentences.refused(x, "it does not fit", STATE, () -> x.use(0, 0, 0));
+            refused(x, "it does not fit", STATE, () -> x.use(0, 0, 0));
         });
     }
 

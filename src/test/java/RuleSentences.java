@@ -1,17 +1,8 @@
 /** The sentences of promises 26 to 31, 35 to 37 and 40: what can be told of RULES by looking at them. */
-final class RuleSentences {
-    private static final String INDEX = Sentences.INDEX;
-    private static final String ARGUMENT = Sentences.ARGUMENT;
-    private static final String UNSUPPORTED = Sentences.UNSUPPORTED;
-    private static final String ELEMENT = Sentences.ELEMENT;
-    private static final int NONE = Sentences.NONE;
-    private static final int MANY = -3;
-
-    private RuleSentences() {
-    }
-
+final class RuleSentences extends Sentences {
     static void tests() {
         promise26();
+        promise26Within();
         promise26Unlike();
         promise27();
         promise28();
@@ -25,22 +16,6 @@ final class RuleSentences {
         promise37();
         promise37First();
         promise40();
-    }
-
-    private static void test(int promise, String sentence, Sentences.Body body) {
-        Sentences.test(promise, sentence, body);
-    }
-
-    private static void due(String what, Object want, Kit.Call call) {
-        Sentences.due(what, want, call);
-    }
-
-    private static long c(String letters) {
-        return Kit.code(letters);
-    }
-
-    private static String a(int many) {
-        return "a".repeat(many);
     }
 
     // ---- 26: OVERLAPS
@@ -60,7 +35,7 @@ final class RuleSentences {
         test(26, "`long overlaps(int what) throws NoSuchElementException`:", () -> {
             BeastRules x = Kit.of("rule aa to b");
             due("what 3", ELEMENT, () -> x.overlaps(3));
-            for (int far : Sentences.FAR) {
+            for (int far : FAR) {
                 due("what " + far, ELEMENT, () -> x.overlaps(far));
             }
         });
@@ -94,6 +69,9 @@ final class RuleSentences {
             overlaps("rule aab to c;rule bd to e", 1, 1, "aabd");
             overlaps("rule abb to c;rule bbd to e", 2, 2, "abbbd");
         });
+    }
+
+    private static void promise26Within() {
         test(26, "and LEFT of P in which LEFT of Q stands at a PLACE within (P not Q; by P, Q, then that PLACE; counted behind all the others).", () -> {
             overlaps("rule abcd to e;rule bc to f", 1, 1, "abcd");
             overlaps("rule abcd to e;rule d to f", 1, 1, "abcd");
@@ -177,9 +155,9 @@ final class RuleSentences {
         });
         test(27, "UnsupportedOperationException: there is one, and there are 12 RULES.", () -> {
             BeastRules x = Kit.of("rule ab to c;rule bd to e" + ";rule h to h".repeat(10));
-            Sentences.refused(x, "12 RULES", UNSUPPORTED, () -> x.complete());
+            refused(x, "12 RULES", UNSUPPORTED, () -> x.complete());
             BeastRules none = Kit.of("rule a to b" + ";rule c to d".repeat(11));
-            Sentences.refused(none, "12 RULES, and none to be added", "-1", () -> none.complete());
+            refused(none, "12 RULES, and none to be added", "-1", () -> none.complete());
             BeastRules tooLong = Kit.of("rule ab to ccccc;rule bd to e" + ";rule h to h".repeat(10));
             due("12 RULES, and one that is too long", NONE, () -> tooLong.complete());
         });
@@ -243,7 +221,7 @@ final class RuleSentences {
             due("both: the one told first", ARGUMENT, () -> x.never(8, 0, -2));
             due("no such BEAST", INDEX, () -> x.never(8, 8, 8));
             due("no such BEAST", INDEX, () -> x.never(8, 8, -2));
-            for (int far : Sentences.FAR) {
+            for (int far : FAR) {
                 Object want = far == NONE ? NONE : INDEX;
                 due("BEAST " + far, want, () -> x.never(8, 8, far));
             }
@@ -252,7 +230,7 @@ final class RuleSentences {
         });
         test(28, "NEVER: M (beast NONE), or the weight of a BEAST; NONE; -3. IllegalArgumentException: a CODE.", () -> {
             BeastRules x = Kit.of("rule a to bb");
-            for (long none : Sentences.NO_CODES) {
+            for (long none : NO_CODES) {
                 due("from " + none, ARGUMENT, () -> x.never(none, 8, NONE));
                 due("to " + none, ARGUMENT, () -> x.never(8, none, NONE));
             }
@@ -344,7 +322,7 @@ final class RuleSentences {
             due("both: the one told first", ARGUMENT, () -> x.falls(6, -2));
             due("no such BEAST", INDEX, () -> x.falls(1, 8));
             due("no such BEAST", INDEX, () -> x.falls(1, -2));
-            for (int far : Sentences.FAR) {
+            for (int far : FAR) {
                 Object want = far == NONE ? 1 : INDEX;
                 due("BEAST " + far, want, () -> x.falls(1, far));
             }
@@ -395,7 +373,7 @@ final class RuleSentences {
     private static void promise30() {
         test(30, "`int light(long meadow) throws IllegalArgumentException`: LIGHT of a MEADOW. IllegalArgumentException.", () -> {
             BeastRules x = new BeastRules();
-            for (long none : Sentences.NO_CODES) {
+            for (long none : NO_CODES) {
                 due("CODE " + none, ARGUMENT, () -> x.light(none));
             }
         });
@@ -417,7 +395,7 @@ final class RuleSentences {
             due("below 0", -2, () -> x.loss(0));
             due("above 0", 2, () -> x.loss(1));
             due("behind the last", INDEX, () -> x.loss(2));
-            for (int far : Sentences.FAR) {
+            for (int far : FAR) {
                 due("rule " + far, INDEX, () -> x.loss(far));
             }
             due("none at all", INDEX, () -> new BeastRules().loss(0));
@@ -438,7 +416,7 @@ final class RuleSentences {
             BeastRules x = Kit.of("seen a to b;rule a to b" + ";rule a to c".repeat(10) + ";rule a to b");
             due("the first and the last of 12", 1 + 2048, () -> x.explained(0));
             due("behind the last", INDEX, () -> x.explained(1));
-            for (int far : Sentences.FAR) {
+            for (int far : FAR) {
                 due("seen " + far, INDEX, () -> x.explained(far));
             }
             due("none at all", INDEX, () -> new BeastRules().explained(0));
@@ -503,7 +481,7 @@ final class RuleSentences {
         test(37, "`long guessed(int what) throws NoSuchElementException`:", () -> {
             BeastRules x = Kit.of("seen a to b");
             due("what 3", ELEMENT, () -> x.guessed(3));
-            for (int far : Sentences.FAR) {
+            for (int far : FAR) {
                 due("what " + far, ELEMENT, () -> x.guessed(far));
             }
             due("what 3 without SEEN", ELEMENT, () -> new BeastRules().guessed(3));
@@ -583,7 +561,7 @@ final class RuleSentences {
             due("WOLVES without RULES", 0, () -> x.sorts(2));
             due("BREEDERS without RULES", 0, () -> x.sorts(3));
             due("what 4", ELEMENT, () -> x.sorts(4));
-            for (int far : Sentences.FAR) {
+            for (int far : FAR) {
                 due("what " + far, ELEMENT, () -> x.sorts(far));
             }
         });

@@ -1,15 +1,8 @@
 /** The sentences of promises 23 to 25, 38 and 39: all that can be come to by any order. */
-final class SearchSentences {
-    private static final String ARGUMENT = Sentences.ARGUMENT;
-    private static final String ELEMENT = Sentences.ELEMENT;
-    private static final int NONE = Sentences.NONE;
-    private static final int MANY = -3;
-
-    private SearchSentences() {
-    }
-
+final class SearchSentences extends Sentences {
     static void tests() {
         promise23();
+        promise23Within();
         promise23Searches();
         promise24();
         promise25();
@@ -17,22 +10,6 @@ final class SearchSentences {
         promise38Again();
         promise38Best();
         promise39();
-    }
-
-    private static void test(int promise, String sentence, Sentences.Body body) {
-        Sentences.test(promise, sentence, body);
-    }
-
-    private static void due(String what, Object want, Kit.Call call) {
-        Sentences.due(what, want, call);
-    }
-
-    private static long c(String letters) {
-        return Kit.code(letters);
-    }
-
-    private static String a(int many) {
-        return "a".repeat(many);
     }
 
     // ---- 23: BECOMES
@@ -62,18 +39,21 @@ final class SearchSentences {
         });
         test(23, "IllegalArgumentException: the CODE, or N; NoSuchElementException: another what.", () -> {
             BeastRules x = Kit.of("rule a to b");
-            for (long none : Sentences.NO_CODES) {
+            for (long none : NO_CODES) {
                 due("CODE " + none, ARGUMENT, () -> x.becomes(none, 1, 0));
             }
             for (int none : new int[] {-1, 41, Integer.MIN_VALUE, Integer.MAX_VALUE}) {
                 due("N " + none, ARGUMENT, () -> x.becomes(8, none, 0));
             }
             due("what 4", ELEMENT, () -> x.becomes(8, 1, 4));
-            for (int far : Sentences.FAR) {
+            for (int far : FAR) {
                 due("what " + far, ELEMENT, () -> x.becomes(8, 1, far));
             }
             due("another what, though there are too many", ELEMENT, () -> Machines.tooMany().becomes(c(a(11)), 6, 4));
         });
+    }
+
+    private static void promise23Within() {
         test(23, "BECOMES within N STEPS (0 to 40): how many unlike MEADOWS (itself, too); the greatest number of BEASTS of any; how many of these are SETTLED; the least CODE of these SETTLED ones (none: NONE).", () -> {
             BeastRules x = Kit.of("rule a to aa");
             due("0: itself", 1, () -> x.becomes(8, 0, 0));
@@ -171,7 +151,7 @@ final class SearchSentences {
     private static void promise24() {
         test(24, "`int fewest(long from, long to) throws IllegalArgumentException`: FEWEST; NONE; -3. IllegalArgumentException.", () -> {
             BeastRules x = Kit.of("rule a to b");
-            for (long none : Sentences.NO_CODES) {
+            for (long none : NO_CODES) {
                 due("from " + none, ARGUMENT, () -> x.fewest(none, 8));
                 due("to " + none, ARGUMENT, () -> x.fewest(8, none));
                 due("both " + none, ARGUMENT, () -> x.fewest(none, none));
@@ -216,7 +196,7 @@ final class SearchSentences {
     private static void promise25() {
         test(25, "`long meets(long one, long other, int n, boolean where) throws IllegalArgumentException`:", () -> {
             BeastRules x = Kit.of("rule a to b");
-            for (long none : Sentences.NO_CODES) {
+            for (long none : NO_CODES) {
                 due("one " + none, ARGUMENT, () -> x.meets(none, 8, 1, true));
                 due("other " + none, ARGUMENT, () -> x.meets(8, none, 1, false));
             }
@@ -266,7 +246,7 @@ final class SearchSentences {
     private static void promise38() {
         test(38, "`int drovers(long meadow, int n) throws IllegalArgumentException`: DROVERS; -3. IllegalArgumentException: the CODE, or N.", () -> {
             BeastRules x = Kit.of("rule a to .");
-            for (long none : Sentences.NO_CODES) {
+            for (long none : NO_CODES) {
                 due("CODE " + none, ARGUMENT, () -> x.drovers(none, 1));
             }
             for (int none : new int[] {-1, 0, 9, Integer.MIN_VALUE, Integer.MAX_VALUE}) {
@@ -357,7 +337,7 @@ final class SearchSentences {
     private static void promise39() {
         test(39, "`int best(long meadow, int n) throws IllegalArgumentException`: BEST; NONE; -3. IllegalArgumentException likewise.", () -> {
             BeastRules x = Kit.of("rule a to .;field a");
-            for (long none : Sentences.NO_CODES) {
+            for (long none : NO_CODES) {
                 due("CODE " + none, ARGUMENT, () -> x.best(none, 1));
             }
             for (int none : new int[] {-1, 0, 9, Integer.MIN_VALUE, Integer.MAX_VALUE}) {

@@ -1,18 +1,10 @@
 /** The sentences of promises 1 to 13, and of the texts. */
-final class ToldSentences {
-    private static final String INDEX = Sentences.INDEX;
-    private static final String ARGUMENT = Sentences.ARGUMENT;
-    private static final String UNSUPPORTED = Sentences.UNSUPPORTED;
-    private static final String ELEMENT = Sentences.ELEMENT;
-    private static final int NONE = Sentences.NONE;
-
-    private ToldSentences() {
-    }
-
+final class ToldSentences extends Sentences {
     static void tests() {
         promise1();
         promise1AtFirst();
         promise2();
+        promise2Full();
         promise3();
         promise4();
         promise4Lines();
@@ -20,6 +12,7 @@ final class ToldSentences {
         promise4Beasts();
         promise5();
         promise5Parts();
+        promise5Numbers();
         promise5Deep();
         promise6();
         promise6Things();
@@ -29,23 +22,9 @@ final class ToldSentences {
         promise10();
         promise11();
         promise12();
+        promise12Made();
         promise13();
-    }
-
-    private static void test(int promise, String sentence, Sentences.Body body) {
-        Sentences.test(promise, sentence, body);
-    }
-
-    private static void due(String what, Object want, Kit.Call call) {
-        Sentences.due(what, want, call);
-    }
-
-    private static long c(String letters) {
-        return Kit.code(letters);
-    }
-
-    private static String a(int many) {
-        return "a".repeat(many);
+        promise13Bounds();
     }
 
     /** A text with ^ ahead of its first wrong byte, or with none, if it is right. */
@@ -65,6 +44,7 @@ final class ToldSentences {
     // ---- 1: a new object
 
     private static void promise1() {
+        test(1, "public static final int NONE = -1;", () -> due("NONE", -1, () -> BeastRules.NONE));
         test(1, "`BeastRules()`: Nothing told.", () -> {
             BeastRules x = new BeastRules();
             due("TAPE", false, () -> x.end(1));
@@ -112,7 +92,7 @@ final class ToldSentences {
         test(1, "(0 at first). YEAR: 0 at first.", () -> {
             due("FOG", 0, () -> new BeastRules().count(6));
             due("YEAR", 0, () -> new BeastRules().count(7));
-            // With FOG 0 no YEAR is in fog: of 60 DRAWS modulo 100 the least is not hidden.
+            // With FOG 0 no YEAR is in fog.
             BeastRules x = Kit.of("rule a to a;field a");
             due("no fog", 200, () -> x.years(0, 200));
         });
@@ -154,6 +134,9 @@ final class ToldSentences {
                 }
             }
         });
+    }
+
+    private static void promise2Full() {
         test(2, "how many it has;", () -> {
             BeastRules x = new BeastRules();
             due("from none", 20, () -> x.feed(-1, -1, -1, -1, -1));
@@ -260,7 +243,7 @@ final class ToldSentences {
             due("the tenth", 10, () -> Kit.valley(x, "fog 4"));
             x.put(0, c("aa"));
             x.feed(0x666f6720, 0x35202020, 0x20202020, 0x20202020, 0x20202020);
-            Sentences.refused(x, "the eleventh", UNSUPPORTED, () -> x.valley());
+            refused(x, "the eleventh", UNSUPPORTED, () -> x.valley());
             due("the TAPE is used up", false, () -> x.end(1));
             due("still ten", 10, () -> x.count(3));
             due("THE LAW is no text of THE VALLEY", 1, () -> Kit.law(x, "bar"));
@@ -394,7 +377,7 @@ final class ToldSentences {
             BeastRules x = Kit.of("rule a to b;field a;seen a to b;weight b 7");
             x.run(0, 1);
             Kit.feed(x, "drop 0;rule c to d;field c;seen c to d;first all;fog 50;weight b 9;drop 1");
-            Sentences.refused(x, "all but the last is right", ARGUMENT, () -> x.valley());
+            refused(x, "all but the last is right", ARGUMENT, () -> x.valley());
             due("acts are remembered as before", true, () -> x.undo());
             due("as ahead of the act", c("a"), () -> x.field(0));
         });
@@ -509,6 +492,9 @@ final class ToldSentences {
             marked(false, "bar if 1 +^", "bar if ^+ 1", "bar if 1 + ^end", "bar if 1 + ^( 1 )", "bar if ^fog < 1", "bar if 1 + ^+ 1",
                     "bar if 1 < ^end", "bar if ^a < 1", "bar if rule ^rule < 1");
         });
+    }
+
+    private static void promise5Numbers() {
         test(5, "All numbers are of 1 to 3 digits.", () -> {
             marked(false, "bar if 0 < 1", "bar if 00 < 01", "bar if 000 < 999", "bar if ^1000 < 1", "bar if 1 < ^0000", "bar if 1 < ^12345678901234567890",
                     "bar if 1 + ^0001 < 1", "bar if ^4294967296 < 1");
@@ -703,7 +689,7 @@ final class ToldSentences {
             BeastRules x = Kit.of("rule a to b;rule c to d");
             due("behind the last", INDEX, () -> x.rule(2, false));
             due("behind the last", INDEX, () -> x.rule(2, true));
-            for (int far : Sentences.FAR) {
+            for (int far : FAR) {
                 due("rule " + far, INDEX, () -> x.rule(far, false));
                 due("rule " + far, INDEX, () -> x.rule(far, true));
             }
@@ -726,7 +712,7 @@ final class ToldSentences {
             due("of none", 1, () -> x.field(0));
             due("of 20", (1L << 61) - 1, () -> x.field(1));
             due("behind the last", INDEX, () -> x.field(2));
-            for (int far : Sentences.FAR) {
+            for (int far : FAR) {
                 due("field " + far, INDEX, () -> x.field(far));
             }
             due("none at all", INDEX, () -> new BeastRules().field(0));
@@ -745,7 +731,7 @@ final class ToldSentences {
         test(9, "`long seen(int seen, boolean became) throws IndexOutOfBoundsException`:", () -> {
             BeastRules x = Kit.of("seen a to b;seen c to d");
             due("behind the last", INDEX, () -> x.seen(2, false));
-            for (int far : Sentences.FAR) {
+            for (int far : FAR) {
                 due("seen " + far, INDEX, () -> x.seen(far, false));
                 due("seen " + far, INDEX, () -> x.seen(far, true));
             }
@@ -770,7 +756,7 @@ final class ToldSentences {
     private static void promise10() {
         test(10, "`int beast(long meadow, int k) throws IllegalArgumentException`:", () -> {
             BeastRules x = new BeastRules();
-            for (long none : Sentences.NO_CODES) {
+            for (long none : NO_CODES) {
                 due("CODE " + none, ARGUMENT, () -> x.beast(none, 0));
                 due("CODE " + none + ", and no such BEAST", ARGUMENT, () -> x.beast(none, -1));
             }
@@ -790,7 +776,7 @@ final class ToldSentences {
             due("behind the last", NONE, () -> x.beast(c("ab"), 2));
             due("behind the 20th", NONE, () -> x.beast((1L << 61) - 1, 20));
             due("below 0", NONE, () -> x.beast(c("ab"), -1));
-            for (int far : Sentences.FAR) {
+            for (int far : FAR) {
                 due("k " + far, NONE, () -> x.beast(c("abcdefgh"), far));
             }
         });
@@ -835,7 +821,7 @@ final class ToldSentences {
             x.undo();
             due("undone", 0, () -> x.steps(1));
             due("behind the last", INDEX, () -> x.steps(2));
-            for (int far : Sentences.FAR) {
+            for (int far : FAR) {
                 due("field " + far, INDEX, () -> x.steps(far));
             }
             due("none at all", INDEX, () -> new BeastRules().steps(0));
@@ -881,7 +867,7 @@ final class ToldSentences {
             due("ahead of the first", INDEX, () -> x.maker(0, -1, 1));
             due("of none", INDEX, () -> x.maker(1, 0, 0));
             due("behind the last FIELD", INDEX, () -> x.maker(2, 0, 0));
-            for (int far : Sentences.FAR) {
+            for (int far : FAR) {
                 due("field " + far, INDEX, () -> x.maker(far, 0, 0));
                 due("place " + far, INDEX, () -> x.maker(0, far, 1));
                 due("what " + far, ELEMENT, () -> x.maker(0, 0, far));
@@ -901,6 +887,9 @@ final class ToldSentences {
             due("of this FIELD", 1, () -> x.maker(1, 0, 1));
             due("of this FIELD", 2, () -> x.maker(1, 1, 1));
         });
+    }
+
+    private static void promise12Made() {
         test(12, "MAKERS: a BEAST of RIGHT is made by that RULE in that STEP (also one that was of LEFT, too); all others keep theirs.", () -> {
             BeastRules x = Kit.of("rule ab to aab;rule c to .;field cabc");
             x.use(0, 0, 1);
@@ -942,10 +931,10 @@ final class ToldSentences {
             BeastRules x = Kit.of("rule a to b");
             due("both: the one told first", INDEX, () -> x.fits(0, 1, 0));
             due("no such RULE", INDEX, () -> x.fits(8, 1, 0));
-            for (int far : Sentences.FAR) {
+            for (int far : FAR) {
                 due("rule " + far, INDEX, () -> x.fits(8, far, 0));
             }
-            for (long none : Sentences.NO_CODES) {
+            for (long none : NO_CODES) {
                 due("CODE " + none, ARGUMENT, () -> x.fits(none, 0, 0));
             }
             due("no CODE, and no such PLACE", ARGUMENT, () -> x.fits(2, 0, -1));
@@ -957,7 +946,7 @@ final class ToldSentences {
             due("of none", false, () -> x.fits(1, 0, 0));
             due("the 20th", true, () -> x.fits(c("b".repeat(19) + "a"), 0, 19));
             due("behind the 20th", false, () -> x.fits(c(a(20)), 0, 20));
-            for (int far : Sentences.FAR) {
+            for (int far : FAR) {
                 due("place " + far, false, () -> x.fits(c("aaaaaaaa"), 0, far));
             }
         });
@@ -975,6 +964,9 @@ final class ToldSentences {
             // Of an a the figures are 0, as those ahead of the 1 of a CODE.
             due("ahead of the first", false, () -> x.fits(c("b"), 1, -1));
         });
+    }
+
+    private static void promise13Bounds() {
         test(13, "the MEADOW behind it has 20 BEASTS at most,", () -> {
             BeastRules x = Kit.of("rule a to bbbbb;rule aaaa to bbbbb;rule a to .;rule a to b");
             due("16 and 4", true, () -> x.fits(c(a(16)), 0, 3));

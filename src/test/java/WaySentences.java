@@ -1,36 +1,16 @@
 /** The sentences of promises 20 to 22 and 32 to 34: what MEADOWS settle to by WAY. */
-final class WaySentences {
-    private static final String ARGUMENT = Sentences.ARGUMENT;
-    private static final int NONE = Sentences.NONE;
+final class WaySentences extends Sentences {
     private static final String DOWN = Machines.COUNT_DOWN + ";rule g to h";
-
-    private WaySentences() {
-    }
 
     static void tests() {
         promise20();
+        promise20Settled();
         promise21();
         promise22();
         promise32();
         promise33();
         promise33Kinds();
         promise34();
-    }
-
-    private static void test(int promise, String sentence, Sentences.Body body) {
-        Sentences.test(promise, sentence, body);
-    }
-
-    private static void due(String what, Object want, Kit.Call call) {
-        Sentences.due(what, want, call);
-    }
-
-    private static long c(String letters) {
-        return Kit.code(letters);
-    }
-
-    private static String a(int many) {
-        return "a".repeat(many);
     }
 
     /** A MEADOW of DOWN that takes so many STEPS more than 3 times a number less its b. */
@@ -43,7 +23,7 @@ final class WaySentences {
     private static void promise20() {
         test(20, "`long settles(long meadow, int n, boolean became) throws IllegalArgumentException`:", () -> {
             BeastRules x = Kit.of("rule a to b");
-            for (long none : Sentences.NO_CODES) {
+            for (long none : NO_CODES) {
                 due("CODE " + none, ARGUMENT, () -> x.settles(none, 1, false));
                 due("CODE " + none, ARGUMENT, () -> x.settles(none, 0, true));
             }
@@ -79,6 +59,9 @@ final class WaySentences {
                 due("7 within " + n, n < 7 ? NONE : 7, () -> x.settles(c("ggggggg"), within, false));
             }
         });
+    }
+
+    private static void promise20Settled() {
         test(20, "a MEADOW is SETTLED, if none can be gone.", () -> {
             due("all, and too many would come of it", 0, () -> Kit.of("rule a to bb;first all").settles(c(a(11)), 0, false));
             due("left, and one can be gone", NONE, () -> Kit.of("rule a to bb;first left").settles(c(a(11)), 0, false));
@@ -116,7 +99,7 @@ final class WaySentences {
     private static void promise21() {
         test(21, "`int again(long meadow, boolean first) throws IllegalArgumentException`:", () -> {
             BeastRules x = Kit.of("rule a to b");
-            for (long none : Sentences.NO_CODES) {
+            for (long none : NO_CODES) {
                 due("CODE " + none, ARGUMENT, () -> x.again(none, false));
                 due("CODE " + none, ARGUMENT, () -> x.again(none, true));
             }
@@ -148,7 +131,7 @@ final class WaySentences {
     private static void promise22() {
         test(22, "`boolean alike(long meadow, long other) throws IllegalArgumentException`:", () -> {
             BeastRules x = Kit.of("rule a to a;rule b to c");
-            for (long none : Sentences.NO_CODES) {
+            for (long none : NO_CODES) {
                 due("CODE " + none, ARGUMENT, () -> x.alike(none, 9));
                 due("other " + none, ARGUMENT, () -> x.alike(9, none));
                 due("other " + none + " of one that never settles", ARGUMENT, () -> x.alike(8, none));
@@ -221,7 +204,7 @@ final class WaySentences {
             due("kind 4", ARGUMENT, () -> x.reckons(4, 0));
             due("N -1", ARGUMENT, () -> x.reckons(0, -1));
             due("N 5", ARGUMENT, () -> x.reckons(0, 5));
-            for (int far : Sentences.FAR) {
+            for (int far : FAR) {
                 due("kind " + far, ARGUMENT, () -> x.reckons(far, 0));
                 for (int i = 0; i < 4; i++) {
                     int kind = i;
